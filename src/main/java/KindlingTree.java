@@ -671,7 +671,6 @@ public final class KindlingTree {
 
     void clear() {
       count = 0;
-      placed = 0;
     }
 
     void add(int move, boolean isOneThatTakes) {
@@ -887,7 +886,7 @@ public final class KindlingTree {
       return nodes;
     }
 
-    int lookOn(int turns, int low, int high) {
+    private int lookOn(int turns, int low, int high) {
       nodes++;
       MoveList list = levels.ofTurns(turns);
       board.listMoves(list);
@@ -928,7 +927,7 @@ public final class KindlingTree {
       quiet = itsQuiet;
     }
 
-    int countWays(int depth) {
+    private int countWays(int depth) {
       if (depth <= 0) {
         return 1;
       }
@@ -936,16 +935,20 @@ public final class KindlingTree {
       board.listMoves(list);
       int sum = 0;
       for (int number = 0; number < list.size(); number++) {
-        int move = list.moveAt(number);
-        int taken = board.advance(move);
-        sum += countWays(depth - 1);
-        board.retreat(move, taken);
+        sum += countBehind(list.moveAt(number), depth);
       }
       return sum;
     }
 
+    private int countBehind(int move, int depth) {
+      int taken = board.advance(move);
+      int count = countWays(depth - 1);
+      board.retreat(move, taken);
+      return count;
+    }
+
     /** The VALUE, if it is between the bounds; the bounds only spare what cannot change it. */
-    int worth(int depth, int low, int high) {
+    private int worth(int depth, int low, int high) {
       if (depth <= 0) {
         return quiet.lookOn(QUIET_TURNS, low, high);
       }
@@ -963,7 +966,7 @@ public final class KindlingTree {
       return best;
     }
 
-    int worthBehind(int move, int depth, int low, int high) {
+    private int worthBehind(int move, int depth, int low, int high) {
       int taken = board.advance(move);
       int number = -worth(depth - 1, -high, -low);
       board.retreat(move, taken);

@@ -115,6 +115,15 @@ public final class SearchTests {
     Check.same("search(1) behind search(2)", tree.search(1), 2);
     Check.same("hits()", tree.hits(), 0);
     Check.same("the move of the entry is first of equal ones", tree.bestFrom(), 1);
+    // the best move of a hit is that of the entry, whatever was found meanwhile
+    tree.empty();
+    tree.search(1);
+    tree.play(2);
+    tree.search(1);
+    Check.yes("another best move", tree.bestFrom() > 5);
+    tree.back();
+    Check.same("search(1) of the first again", tree.search(1), 2);
+    same(tree, 0, 3, 1, 1, 1, 0);
   }
 
   private static void killersByDepth() {
