@@ -1,8 +1,9 @@
 /**
  * A library that searches trees of a game of pawns.
  *
- * <p>A MOVE is told inside by one number, from * 100 + to, as the face tells it of killers and
- * entries. All rows are made with the object; no call makes a further one.
+ * <p>What each public call answers and throws is told by the project's document, by the same
+ * names. A move is held by one number, from * 100 + to, as the document tells killers and entries.
+ * All rows are made with the object, as what a run makes is never given back.
  */
 public final class KindlingTree {
   private static final int LEAST_SIDE_OF_BOARD = 3;
@@ -35,7 +36,6 @@ public final class KindlingTree {
   private final Seeker seeker;
   private final Book book;
 
-  /** A board with 3 columns and 3 rows, one full row on each side. */
   public KindlingTree() {
     Levels levels = new Levels();
     board = new Board();
@@ -51,7 +51,6 @@ public final class KindlingTree {
 
   // ---- the board
 
-  /** Sets a new board up; tells how many pawns there are. */
   public int setUp(int columns, int rows, int full) throws IllegalArgumentException {
     if (!isWithin(columns, LEAST_SIDE_OF_BOARD, MOST_SIDE_OF_BOARD)
         || !isWithin(rows, LEAST_SIDE_OF_BOARD, MOST_SIDE_OF_BOARD)) {
@@ -67,7 +66,6 @@ public final class KindlingTree {
     return 2 * full * columns;
   }
 
-  /** Puts something on a field; tells what was there. */
   public int put(int field, int what)
       throws IndexOutOfBoundsException, IllegalArgumentException, IllegalStateException {
     if (!board.isField(field)) {
@@ -85,7 +83,6 @@ public final class KindlingTree {
     return before;
   }
 
-  /** Lets a side be to move; tells the one that was. */
   public int setSide(int side) throws IllegalArgumentException {
     if (!isWithin(side, 0, 1)) {
       throw new IllegalArgumentException("side is not 0 or 1");
@@ -96,7 +93,6 @@ public final class KindlingTree {
     return before;
   }
 
-  /** Plays a move; tells what was taken. */
   public int play(int move) throws IndexOutOfBoundsException {
     if (!here.has(move)) {
       throw new IndexOutOfBoundsException("there is no such move");
@@ -104,7 +100,6 @@ public final class KindlingTree {
     return playHere(move);
   }
 
-  /** Takes the latest move back; tells how many more can be taken back. */
   public int back() throws IllegalStateException {
     if (trail.length() == 0) {
       throw new IllegalStateException("there is nothing to take back");
@@ -117,7 +112,6 @@ public final class KindlingTree {
 
   // ---- what is set
 
-  /** Sets the weights; tells the evaluation then. */
   public int weigh(int m, int a, int f) throws IllegalArgumentException {
     if (!isWithin(m, 0, 50) || !isWithin(a, 0, 20) || !isWithin(f, 0, 10)) {
       throw new IllegalArgumentException("a weight is out of its bounds");
@@ -127,7 +121,6 @@ public final class KindlingTree {
     return judge.evaluate(board);
   }
 
-  /** Switches quiet search on or off; tells whether it was on. */
   public boolean setQuiet(boolean isOn) {
     boolean was = judge.isQuietOn();
     if (was != isOn) {
@@ -137,7 +130,6 @@ public final class KindlingTree {
     return was;
   }
 
-  /** Sets how many slots the table has; tells how many it had. */
   public int setSlots(int slots) throws IllegalArgumentException {
     if (!isWithin(slots, 0, MOST_SLOTS)) {
       throw new IllegalArgumentException("slots is not 0 to 64");
@@ -147,7 +139,6 @@ public final class KindlingTree {
     return before;
   }
 
-  /** Empties the table; tells how many entries it had. */
   public int empty() {
     int before = table.countEntries();
     table.wipe();
@@ -156,17 +147,14 @@ public final class KindlingTree {
 
   // ---- the board, asked
 
-  /** Tells how many columns the board has. */
   public int columns() {
     return board.width();
   }
 
-  /** Tells how many rows the board has. */
   public int rows() {
     return board.height();
   }
 
-  /** Tells what is on a field. */
   public int at(int field) throws IndexOutOfBoundsException {
     if (!board.isField(field)) {
       throw new IndexOutOfBoundsException("there is no such field");
@@ -174,22 +162,18 @@ public final class KindlingTree {
     return board.pawnAt(field);
   }
 
-  /** Tells the side that is to move. */
   public int side() {
     return board.mover();
   }
 
-  /** Tells how many moves can be taken back. */
   public int played() {
     return trail.length();
   }
 
-  /** Tells how many moves there are. */
   public int moves() {
     return here.size();
   }
 
-  /** Tells the field from which a move goes. */
   public int from(int move) throws IndexOutOfBoundsException {
     if (!here.has(move)) {
       throw new IndexOutOfBoundsException("there is no such move");
@@ -197,7 +181,6 @@ public final class KindlingTree {
     return fromOf(here.moveAt(move));
   }
 
-  /** Tells the field to which a move goes. */
   public int to(int move) throws IndexOutOfBoundsException {
     if (!here.has(move)) {
       throw new IndexOutOfBoundsException("there is no such move");
@@ -205,7 +188,6 @@ public final class KindlingTree {
     return toOf(here.moveAt(move));
   }
 
-  /** Tells whether something is taken by a move. */
   public boolean takes(int move) throws IndexOutOfBoundsException {
     if (!here.has(move)) {
       throw new IndexOutOfBoundsException("there is no such move");
@@ -213,22 +195,18 @@ public final class KindlingTree {
     return here.isTaking(move);
   }
 
-  /** Tells whether the position is lost. */
   public boolean isLost() {
     return isOver();
   }
 
-  /** Tells the key of the position. */
   public long key() {
     return board.keyNumber();
   }
 
-  /** Tells the evaluation of the position. */
   public int evaluation() {
     return judge.evaluate(board);
   }
 
-  /** Tells how many ways there are to go on by so many moves. */
   public int ways(int depth) throws IllegalArgumentException {
     if (!isWithin(depth, 0, MOST_VALUE_DEPTH)) {
       throw new IllegalArgumentException("depth is not 0 to 3");
@@ -238,7 +216,6 @@ public final class KindlingTree {
 
   // ---- values and the search
 
-  /** Tells the value of the position with a depth. */
   public int value(int depth) throws IllegalArgumentException {
     if (!isWithin(depth, 0, MOST_VALUE_DEPTH)) {
       throw new IllegalArgumentException("depth is not 0 to 3");
@@ -246,7 +223,6 @@ public final class KindlingTree {
     return valuer.worth(depth, -WIDEST, WIDEST);
   }
 
-  /** Tells what a move comes to with a depth. */
   public int valueOf(int move, int depth)
       throws IndexOutOfBoundsException, IllegalArgumentException {
     if (!here.has(move)) {
@@ -258,7 +234,6 @@ public final class KindlingTree {
     return valuer.worthBehind(here.moveAt(move), depth, -WIDEST, WIDEST);
   }
 
-  /** Searches the position to a depth; tells the number of the result. */
   public int search(int depth) throws IllegalArgumentException, IllegalStateException {
     if (!isWithin(depth, 1, MOST_DEPTH)) {
       throw new IllegalArgumentException("depth is not 1 to 4");
@@ -269,54 +244,45 @@ public final class KindlingTree {
     return seeker.seek(depth);
   }
 
-  /** Tells the field from which the best move of the latest search goes. */
   public int bestFrom() {
     return fromOf(seeker.bestMove());
   }
 
-  /** Tells the field to which the best move of the latest search goes. */
   public int bestTo() {
     return toOf(seeker.bestMove());
   }
 
-  /** Tells to which depth the latest search came. */
   public int reached() {
     return seeker.depthReached();
   }
 
-  /** Tells the nodes of the latest search. */
   public int nodes() {
     return seeker.nodeCount();
   }
 
-  /** Tells the hits of the latest search. */
   public int hits() {
     return seeker.hitCount();
   }
 
-  /** Tells the cuts of the latest search. */
   public int cuts() {
     return seeker.cutCount();
   }
 
-  /** Tells a killer as the latest search left it. */
   public int killer(int depth, boolean isOlder) {
     return seeker.killerOf(depth, isOlder);
   }
 
   // ---- the table, asked
 
-  /** Tells how many slots the table has. */
   public int slots() {
     return table.size();
   }
 
-  /** Tells how many entries the table has. */
   public int entries() {
     return table.countEntries();
   }
 
-  /** Tells what an entry says: 0 its depth, 1 its number, 2 of which kind it is, 3 its move. */
+  // what: 0 its depth, 1 its number, 2 of which kind it is, 3 its move
   public int ofSlot(int slot, int what)
       throws IndexOutOfBoundsException, IllegalArgumentException {
     if (!table.isSlot(slot)) {
@@ -328,14 +294,12 @@ public final class KindlingTree {
     return table.tell(slot, what);
   }
 
-  /** Tells the depth of the entry for the position. */
   public int known() {
     return table.depthAt(table.find(board.keyNumber()));
   }
 
   // ---- the book, and playing by itself
 
-  /** Adds a move to the book; tells how many entries the book has then. */
   public int teach(int move, int weight)
       throws IndexOutOfBoundsException, IllegalArgumentException, IllegalStateException {
     if (!here.has(move)) {
@@ -353,12 +317,10 @@ public final class KindlingTree {
     return book.length();
   }
 
-  /** Tells the number of the move that the book tells. */
   public int told() {
     return book.choose(board.keyNumber(), here);
   }
 
-  /** Plays the move of the book, otherwise the best one of a search; tells its number. */
   public int go(int depth) throws IllegalArgumentException, IllegalStateException {
     if (!isWithin(depth, 1, MOST_DEPTH)) {
       throw new IllegalArgumentException("depth is not 1 to 4");
@@ -369,7 +331,6 @@ public final class KindlingTree {
     return goOn(depth);
   }
 
-  /** Plays on till the position is lost or so many moves were played; tells how many were. */
   public int playOut(int depth, int most) throws IllegalArgumentException {
     if (!isWithin(depth, 1, MOST_VALUE_DEPTH)) {
       throw new IllegalArgumentException("depth is not 1 to 3");
@@ -385,18 +346,15 @@ public final class KindlingTree {
     return count;
   }
 
-  /** Tells how many entries the book has. */
   public int pages() {
     return book.length();
   }
 
-  /** Tells the nodes for each cut. */
   public double effort() {
     int cuts = seeker.cutCount();
     return cuts == 0 ? 0.0 : (double) seeker.nodeCount() / cuts;
   }
 
-  /** Tells a checksum of all that can be asked. */
   public long digest() {
     long d = addBoard(58036L);
     d = addMoves(d);
