@@ -7,13 +7,19 @@ public final class MemoryTests {
 
   public static void main(String[] args) {
     work(new KindlingTree());
-    long before = made();
-    KindlingTree tree = new KindlingTree();
-    long behindOne = made();
-    work(tree);
-    long behindCalls = made();
-    Check.yes("an object takes less than 20000 bytes", behindOne - before < 20000);
-    Check.yes("its calls make nothing", behindCalls - behindOne < 1000);
+    // the machine itself makes something now and then: what the calls make is in every try
+    long leastObject = Long.MAX_VALUE;
+    long leastCalls = Long.MAX_VALUE;
+    for (int i = 0; i < 20; i++) {
+      long before = made();
+      KindlingTree tree = new KindlingTree();
+      long behindOne = made();
+      work(tree);
+      leastObject = Math.min(leastObject, behindOne - before);
+      leastCalls = Math.min(leastCalls, made() - behindOne);
+    }
+    Check.yes("an object takes " + leastObject + " bytes, less than 20000", leastObject < 20000);
+    Check.yes("its calls make " + leastCalls + " bytes, less than 1000", leastCalls < 1000);
     Check.end("MemoryTests");
   }
 
