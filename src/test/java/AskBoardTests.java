@@ -89,9 +89,9 @@ public final class AskBoardTests {
   }
 
   private static void movesRefuse() {
-    KindlingTree tree = new KindlingTree();
     int[] bad = {-1, 3, 18, Integer.MAX_VALUE, Integer.MIN_VALUE};
     for (int move : bad) {
+      KindlingTree tree = new KindlingTree();
       Check.index(tree, "from(" + move + ")", () -> tree.from(move));
       Check.index(tree, "to(" + move + ")", () -> tree.to(move));
       Check.index(tree, "takes(" + move + ")", () -> tree.takes(move));

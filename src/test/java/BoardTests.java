@@ -90,10 +90,6 @@ public final class BoardTests {
   }
 
   private static void setUpRefuses() {
-    KindlingTree tree = new KindlingTree();
-    tree.teach(0, 3);
-    tree.search(2);
-    tree.play(0);
     int far = Integer.MAX_VALUE;
     int[][] bad = {
       {2, 3, 1}, {6, 3, 1}, {3, 2, 1}, {3, 6, 1}, {3, 3, 0}, {3, 3, -1}, {3, 3, 2}, {3, 4, 2},
@@ -102,10 +98,14 @@ public final class BoardTests {
       {-3, 3, 1}, {3, -3, 1}, {0, 0, 0}, {1 << 30, 4, 1}
     };
     for (int[] b : bad) {
+      KindlingTree tree = new KindlingTree();
+      tree.teach(0, 3);
+      tree.search(2);
+      tree.play(0);
       Check.argument(tree, "setUp(" + b[0] + ", " + b[1] + ", " + b[2] + ")",
           () -> tree.setUp(b[0], b[1], b[2]));
+      Check.same("back behind a refused one", tree.back(), 0);
     }
-    Check.same("back behind refused ones", tree.back(), 0);
   }
 
   private static void putChangesAField() {

@@ -10,15 +10,36 @@ final class Boards {
   }
 
   static void lay(KindlingTree tree, int columns, int rows, String text, int side) {
-    String fields = text.replace(" ", "");
     tree.setUp(columns, rows, 1);
+    change(tree, text);
+    tree.setSide(side);
+  }
+
+  /** Changes the fields alone, by put(), so that the table stays. */
+  static void change(KindlingTree tree, String text) {
+    String fields = text.replace(" ", "");
     for (int field = 0; field < fields.length(); field++) {
       tree.put(field, 0);
     }
     for (int field = 0; field < fields.length(); field++) {
       tree.put(field, fields.charAt(field) - '0');
     }
-    tree.setSide(side);
+  }
+
+  /** With 64 slots, all of which have an entry, behind some hundred calls. */
+  static KindlingTree withAFullTable() {
+    KindlingTree tree = new KindlingTree();
+    tree.setUp(5, 4, 1);
+    tree.setSlots(64);
+    for (int i = 0; i < 60 && tree.entries() < 64; i++) {
+      tree.search(4);
+      tree.play(i % tree.moves());
+      while (tree.isLost() || tree.played() > 7) {
+        tree.back();
+      }
+    }
+    Check.same("entries() of a full table", tree.entries(), 64);
+    return tree;
   }
 
   static PlainTree plain(int columns, int rows, String text, int side) {

@@ -2,8 +2,18 @@
 final class Check {
   private static int checks;
   private static int wrong;
+  private static String sentence = "";
 
   private Check() {}
+
+  /** What is reported from now on is said to break this sentence. */
+  static void about(String itsSentence) {
+    sentence = itsSentence;
+  }
+
+  static int count() {
+    return checks;
+  }
 
   static void same(String what, long got, long due) {
     checks++;
@@ -40,7 +50,7 @@ final class Check {
   private static void report(String text) {
     wrong++;
     if (wrong <= 50) {
-      System.out.println(text);
+      System.out.println(sentence.isEmpty() ? text : sentence + ": " + text);
     }
   }
 

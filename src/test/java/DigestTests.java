@@ -46,14 +46,17 @@ public final class DigestTests {
   private static void joinsWhatIsAsked() {
     KindlingTree tree = new KindlingTree();
     Check.same("digest() of a new one", tree.digest(), joined(tree));
+    tree = new KindlingTree();
     tree.setUp(4, 4, 1);
     tree.teach(1, 4);
     tree.search(4);
     Check.same("digest()", tree.digest(), joined(tree));
+    tree = new KindlingTree();
     tree.setSlots(64);
     tree.playOut(3, 5);
     tree.teach(0, 2);
     Check.same("digest()", tree.digest(), joined(tree));
+    tree = new KindlingTree();
     tree.setSlots(0);
     tree.search(3);
     Check.same("digest() without slots", tree.digest(), joined(tree));

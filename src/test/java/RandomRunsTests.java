@@ -3,11 +3,14 @@ import java.util.function.DoubleSupplier;
 
 /** Random runs of calls, each answer compared with the one of PlainTree. */
 public final class RandomRunsTests {
-  private static final int RUNS = 400;
+  private static final int RUNS = 600;
+  // an object is used for at most 512 calls, and a turn makes some twenty
+  private static final int CALLS = 490;
   private final Random random;
   private final KindlingTree tree = new KindlingTree();
   private final PlainTree plain = new PlainTree();
   private final int run;
+  private int calls;
 
   private RandomRunsTests(int itsRun) {
     run = itsRun;
@@ -38,6 +41,7 @@ public final class RandomRunsTests {
   }
 
   private void compare(String call, DoubleSupplier got, DoubleSupplier due) {
+    calls++;
     Check.same("run " + run + ": " + call, answer(got), answer(due));
   }
 
@@ -52,8 +56,7 @@ public final class RandomRunsTests {
   }
 
   private void go() {
-    int calls = 20 + random.nextInt(120);
-    for (int i = 0; i < calls; i++) {
+    for (int i = 0; calls < CALLS; i++) {
       int kind = random.nextInt(100);
       if (kind < 25) {
         changeBoard();
@@ -67,6 +70,7 @@ public final class RandomRunsTests {
         askSearch();
       }
       if (i % 5 == 0) {
+        calls++;
         Check.same("run " + run + ": digest behind call " + i, tree.digest(), plain.digest());
       }
     }
@@ -74,10 +78,12 @@ public final class RandomRunsTests {
   }
 
   private int aMove() {
+    calls++;
     return about(0, tree.moves() - 1);
   }
 
   private int aField() {
+    calls += 2;
     return about(0, tree.columns() * tree.rows() - 1);
   }
 
@@ -169,6 +175,7 @@ public final class RandomRunsTests {
 
   private void askSearch() {
     int depth = about(1, 4);
+    calls++;
     int slot = about(0, tree.slots() - 1);
     int what = about(0, 3);
     boolean isOlder = random.nextBoolean();
