@@ -392,6 +392,20 @@ public final class BoardEdgeTests {
     Check.same("moves", Boards.moves(tree), "6-3 6x4 8x4 8-5");
   }
 
+  @Holds(in = "Promise 6", says = "Takes the latest MOVE that was played back")
+  static void backOfTheOnlyMoveThatTook() {
+    KindlingTree tree = Boards.of(3, 4, "010 202 000 000", 0);
+    Check.same("play() of 1x5", tree.play(2), 2);
+    Check.same("fields", Boards.fields(tree), "000201000000");
+    Check.same("back()", tree.back(), 0);
+    Check.same("fields", Boards.fields(tree), "010202000000");
+    tree.setSide(1);
+    Check.same("play() of 3x1", tree.play(1), 1);
+    Check.same("back()", tree.back(), 0);
+    Check.same("fields", Boards.fields(tree), "010202000000");
+    Check.same("side()", tree.side(), 1);
+  }
+
   /**
    * The longest game that was found, of 35 moves. No game has more than 37 (12 pawns go three rows
    * at most, and one of them goes one more), so the 41st latest one can't be asked for.

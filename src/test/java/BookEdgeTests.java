@@ -397,6 +397,23 @@ public final class BookEdgeTests {
         1, 1, 1, 2, 0, 3, 1, -1, 0));
   }
 
+  /** Without slots, so that what the search has left are its killers: 206, 1208 and 1208. */
+  @Holds(in = "Promise 44", says = "for each the newer one, then the older one")
+  static void digestOfKillersOnTwoDepths() {
+    KindlingTree tree = new KindlingTree();
+    tree.setUp(4, 4, 1);
+    tree.search(3);
+    tree.setUp(3, 3, 1);
+    Boards.change(tree, "000 000 000");
+    tree.setSlots(0);
+    Check.same("digest()", tree.digest(), joined(
+        3, 3, 0, 0, 0, 0, 0, 0, 0, 0, 0, 0, 0, 1, 0, 0,
+        0, 0, -1001,
+        0, 4, 3, 64, 0, 9,
+        206, 1208, 1208, -1, -1, -1, -1, -1,
+        0, 0, 0, -1, 0));
+  }
+
   @Holds(in = "Promise 44", says = "at() of each FIELD")
   static void digestOfTheLargestBoard() {
     KindlingTree tree = Boards.of(5, 5, "00000 00000 00000 00000 00000", 0);

@@ -179,6 +179,17 @@ public final class SearchTermsEdgeTests {
     best(tree, 0, 3);
   }
 
+  /** The move of the entry (of another depth) is not tried again by its number. */
+  @Holds(in = "Terms 4", says = "(by the entry and the KILLERS as they are then), each once")
+  static void movesAreTriedOnce() {
+    KindlingTree tree = Boards.of(3, 4, "001 000 000 022", 1);
+    Check.same("moves()", tree.moves(), 2);
+    tree.search(2);
+    Check.same("known()", tree.known(), 2);
+    tree.search(1);
+    counts(tree, 3, 0, 0);
+  }
+
   /** 6-9 and 6x10 win both. */
   @Holds(in = "Terms 4", says = "those by which something is TAKEN, by their numbers")
   static void movesThatTakeAreAheadOfOthers() {
