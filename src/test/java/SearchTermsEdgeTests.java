@@ -179,14 +179,15 @@ public final class SearchTermsEdgeTests {
     best(tree, 0, 3);
   }
 
-  /** The move of the entry (of another depth) is not tried again by its number. */
+  /** 9-12 wins; it would be left out, if 6x10 came again among all others. */
   @Holds(in = "Terms 4", says = "(by the entry and the KILLERS as they are then), each once")
   static void movesAreTriedOnce() {
-    KindlingTree tree = Boards.of(3, 4, "001 000 000 022", 1);
-    Check.same("moves()", tree.moves(), 2);
-    tree.search(2);
-    Check.same("known()", tree.known(), 2);
-    tree.search(1);
+    KindlingTree tree = Boards.of(3, 5, "000 200 100 122 000", 0);
+    Check.same("moves", Boards.moves(tree), "6x10 9-12");
+    Check.same("search(2)", tree.search(2), 1001);
+    best(tree, 9, 12);
+    Check.same("search(1)", tree.search(1), 1000);
+    best(tree, 9, 12);
     counts(tree, 3, 0, 0);
   }
 
