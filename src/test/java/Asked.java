@@ -1,6 +1,6 @@
 /**
- * What can be asked of a tree without changing it, as one text. The digest joins most of it, so that
- * an object stays far under its 512 calls.
+ * What can be asked of a tree without changing it, as one text. The digest joins most of it, so
+ * that an object stays far under its 512 calls.
  */
 final class Asked {
   private Asked() {}

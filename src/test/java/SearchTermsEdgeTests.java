@@ -269,7 +269,8 @@ public final class SearchTermsEdgeTests {
     best(tree, 11, 8);
   }
 
-  @Holds(in = "Terms 4", says = "if it is greater than best, it is best, and this MOVE the BEST one")
+  @Holds(in = "Terms 4",
+      says = "if it is greater than best, it is best, and this MOVE the BEST one")
   static void equalNumberIsNotBest() {
     KindlingTree tree = new KindlingTree();
     Check.same("search(1)", tree.search(1), 2);

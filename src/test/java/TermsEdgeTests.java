@@ -355,7 +355,8 @@ public final class TermsEdgeTests {
     Check.same("weigh(50, 20, 10)", tree.weigh(50, 20, 10), 80);
   }
 
-  @Holds(in = "Terms 2", says = "all rows that its pawns have gone from the first row of their side")
+  @Holds(in = "Terms 2",
+      says = "all rows that its pawns have gone from the first row of their side")
   static void rowsGoneFromTheFirstToTheLast() {
     for (int row = 0; row < 5; row++) {
       KindlingTree tree = Boards.of(3, 5, "000 000 000 000 000", 0);
